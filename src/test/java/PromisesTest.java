@@ -1,3 +1,4 @@
+import java.util.Arrays;
 import java.util.List;
 
 /**
@@ -292,6 +293,7 @@ public final class PromisesTest {
         checks.badState("sign(1), no session", PromisesTest::committed, x -> x.sign(1));
         checks.badState("sign(3), no member", PromisesTest::begun, x -> x.sign(3));
         checks.badState("sign(3), no member but a pair", PromisesTest::begunWithPairOf3, x -> x.sign(3));
+        checks.badState("sign(1), a member of the session before alone", PromisesTest::begunAnewWithout1, x -> x.sign(1));
         checks.badState("sign(1) again", PromisesTest::signed, x -> x.sign(1));
         checks.badState("sign(1) with another pair", PromisesTest::begunAndCommittedAnew, x -> x.sign(1));
         checks.badState("sign(2) with the same pair anew", PromisesTest::begunAndCommittedAnew, x -> x.sign(2));
@@ -302,6 +304,13 @@ public final class PromisesTest {
     private static ThresholdSeal begunWithPairOf3() {
         ThresholdSeal x = begun();
         x.commit(3, 1);
+        return x;
+    }
+
+    /** Signer 1 still has the pair that he had in the first session. */
+    private static ThresholdSeal begunAnewWithout1() {
+        ThresholdSeal x = begunWithPairOf3();
+        x.begin(14, 99);
         return x;
     }
 
@@ -425,6 +434,9 @@ public final class PromisesTest {
         checks.yes("check(99, R, sum + 1)", !x.check(99, R, SUM + 1));
         checks.yes("check(99, R, sum + Q), no number", !x.check(99, R, SUM + Q));
         checks.yes("check(99, R, sum - Q), no number", !x.check(99, R, SUM - Q));
+        checks.yes("check(99, R, sum + 2^30), no number", !x.check(99, R, SUM + (1L << 30)));
+        checks.yes("check(99, R, sum + 2^32), no number", !x.check(99, R, SUM + (1L << 32)));
+        checks.yes("check(99, R, sum + the least long), no number", !x.check(99, R, SUM + Long.MIN_VALUE));
         checks.yes("check(99, R + P, sum), no element", !x.check(99, R + P, SUM));
         checks.yes("check(99, R - P, sum), no element", !x.check(99, R - P, SUM));
         for (long r : new long[] {0, P, -1, Long.MIN_VALUE, Long.MAX_VALUE}) {
@@ -447,7 +459,7 @@ public final class PromisesTest {
         long[] before = Checks.seen(begun());
         ThresholdSeal same = begun();
         same.check(99, R, SUM);
-        checks.yes("check changes nothing", java.util.Arrays.equals(before, Checks.seen(same)));
+        checks.yes("check changes nothing", Arrays.equals(before, Checks.seen(same)));
     }
 
     /** The R and z for which the sums would come out modulo P and Q although they are too large. */
@@ -505,7 +517,7 @@ public final class PromisesTest {
         long[] before = Checks.seen(begun());
         ThresholdSeal same = begun();
         same.recover(28);
-        checks.yes("recover changes nothing", java.util.Arrays.equals(before, Checks.seen(same)));
+        checks.yes("recover changes nothing", Arrays.equals(before, Checks.seen(same)));
     }
 
     private void promise12Key() {
