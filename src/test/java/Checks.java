@@ -1,4 +1,6 @@
+import java.util.ArrayList;
 import java.util.Arrays;
+import java.util.List;
 import java.util.function.Supplier;
 import java.util.function.ToLongFunction;
 
@@ -13,8 +15,14 @@ final class Checks {
     static final long ILLEGAL_STATE = Long.MIN_VALUE + 1;
     static final long OTHER_THROW = Long.MIN_VALUE + 2;
 
+    private String sentence = "";
     private int wrong = 0;
     private int asked = 0;
+
+    /** The sentence of the document that the next calls are about. */
+    void sentence(String words) {
+        sentence = words + ": ";
+    }
 
     static long outcome(Call call) {
         try {
@@ -47,7 +55,7 @@ final class Checks {
         asked++;
         if (got != want) {
             wrong++;
-            System.out.println(what + ": answered " + words(got) + ", due is " + words(want));
+            System.out.println(sentence + what + ": answered " + words(got) + ", due is " + words(want));
         }
     }
 
@@ -56,14 +64,42 @@ final class Checks {
     }
 
     /**
-     * The call throws what is due, and nothing that can be seen of the object changes. Each such
-     * call has an object of its own, for looking twice at everything takes many of the 512 calls.
+     * The call throws what is due, nothing that can be seen of the object changes, and it goes on
+     * as a twin that never had the call. Each such call has an object of its own, for looking at
+     * everything takes many of the 512 calls.
      */
     private void refused(String what, Supplier<ThresholdSeal> made, long want, ToLongFunction<ThresholdSeal> call) {
         ThresholdSeal x = made.get();
+        ThresholdSeal twin = made.get();
         long[] before = seen(x);
         due(what, want, () -> call.applyAsLong(x));
         yes(what + " changes nothing", Arrays.equals(before, seen(x)));
+        yes(what + " changes nothing that comes later", later(twin).equals(later(x)));
+    }
+
+    /** What the rest of the session answers, and one more session of all signers. */
+    static List<Long> later(ThresholdSeal x) {
+        List<Long> row = new ArrayList<>();
+        finishSession(x, row);
+        for (int i = 1; i <= 6; i++) {
+            int signer = i;
+            row.add(outcome(() -> x.commit(signer, 1000 + signer)));
+        }
+        row.add(outcome(() -> x.begin(31, 5)));
+        finishSession(x, row);
+        return row;
+    }
+
+    private static void finishSession(ThresholdSeal x, List<Long> row) {
+        for (int i = 1; i <= 6; i++) {
+            int signer = i;
+            row.add(outcome(() -> x.sign(signer)));
+            row.add(outcome(() -> bit(x.relay(signer, 0))));
+        }
+        row.add(outcome(x::seal));
+        row.add(outcome(() -> bit(x.holds(Made.MESSAGE, 0))));
+        row.add((long) x.taken());
+        row.add((long) x.blamed());
     }
 
     void badArgument(String what, Supplier<ThresholdSeal> made, ToLongFunction<ThresholdSeal> call) {
